@@ -181,6 +181,10 @@ public final class PromiseTest {
         refused("thirteenth, out of range", ARGUMENT, () -> x.sound(0, 25));
         due("voice", x.voice(), 0);
         due("of the next voice", x.sound(3, 1), 1);
+        x.puppet(1);
+        x.shot(0, 48, 1, 0);
+        due("the last frame of the twelfth sound", x.mouth(0, 34), 0);
+        due("behind twelve sounds", x.mouth(0, 35), NONE);
     }
 
     private static void voice() {
@@ -581,6 +585,22 @@ public final class PromiseTest {
         due("again", x.mend(0, 0), 0);
         x.strike(0);
         due("it stands where it stood", x.ofJoint(0, 0, 1), 125);
+        nearlyBroken();
+    }
+
+    private static void nearlyBroken() {
+        FrameClay x = oneShot(9, 1);
+        for (int f = 0; f < 6; f++) {
+            x.key(0, 0, f, f % 2 == 0 ? 160 : 0);
+        }
+        x.key(0, 0, 6, 39);
+        x.key(0, 0, 7, 40);
+        strikes(x, 0, 7);
+        due("999", x.ofJoint(0, 0, 1), 999);
+        due("not broken", x.bars(0), 0);
+        x.strike(0);
+        due("1000", x.ofJoint(0, 0, 1), 1000);
+        due("broken", x.bars(0), 5);
     }
 
     private static void lamp() {
@@ -754,6 +774,9 @@ public final class PromiseTest {
         due("0 of a short one", x.wants(2, 0), 0);
         due("5 of a short one", x.wants(2, 5), 1);
         due("without a voice", x.wants(3, 5), 0);
+        speak(x, 5, 1, 0, 1, 5, 1);
+        x.dub(3, 1);
+        due("the frame 0 with them", x.wants(3, 5), 2);
         x.assign(2, 0);
         x.mouths(0, 5, 1);
         x.strike(2);
@@ -773,6 +796,7 @@ public final class PromiseTest {
             refused("shot " + no, INDEX, () -> x.bars(no));
         }
         due("no animator", x.bars(0), 1);
+        refused("no animator", STATE, () -> x.strike(0));
         x.assign(0, 0);
         x.assign(1, 1);
         x.assign(2, 0);
@@ -947,12 +971,15 @@ public final class PromiseTest {
         }
         refused("frame 1", INDEX, () -> x.faults(0, 1));
         due("none", x.faults(0, 0), 0);
-        x.key(0, 1, 2, 3);
-        due("degrees", x.faults(0, 0), 1);
         x.dub(0, 1);
-        due("mouth", x.faults(0, 0), 3);
+        due("mouth", x.faults(0, 0), 2);
+        x.dub(0, 0);
         x.camera(0, 5, 4);
-        due("camera", x.faults(0, 0), 19);
+        due("camera", x.faults(0, 0), 16);
+        x.key(0, 1, 2, 3);
+        due("degrees and camera", x.faults(0, 0), 17);
+        x.dub(0, 1);
+        due("and mouth", x.faults(0, 0), 19);
         x.bump(0, 1);
         due("a bump behind it", x.faults(0, 0), 19);
         strikes(x, 0, 2);
@@ -989,7 +1016,6 @@ public final class PromiseTest {
         x.ill(2, true);
         x.assign(1, 4);
         x.ill(3, true);
-        strikes(x, 2, 0);
         x.anew(2, 0);
         strikes(x, 1, 47);
         x.ill(3, false);
@@ -1001,6 +1027,9 @@ public final class PromiseTest {
         due("21 more", x.faults(2, 16), 8);
         strikes(x, 2, 1);
         due("the next one", x.faults(2, 17), 0);
+        x.key(2, 0, 18, 1);
+        due("degrees of the first joint", x.faults(2, 17), 1);
+        due("degrees and light", x.faults(2, 16), 9);
         due("the first one of the other", x.faults(1, 0), 0);
         lightOfFrameStruckLater(x);
     }
